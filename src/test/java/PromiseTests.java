@@ -282,6 +282,14 @@ public final class PromiseTests {
         }
         due("those not gone", left, standing);
         due("drawn", rained.draw(1), seed);
+
+        Craterclock shallow = new Craterclock();
+        shallow.stone(15, 15, 6);
+        shallow.flood(15, 15, 15, 15, 23);
+        due("one of depth 1 is not gone", shallow.rain(1), 2);
+        shallow.flood(15, 15, 15, 15, 1);
+        shallow.draw(1);
+        due("one of depth 0 is, and one that it wipes out", shallow.rain(1), 1);
     }
 
     private static void rainWrong() {
@@ -558,6 +566,8 @@ public final class PromiseTests {
         first.anchor(4999999999L, 99999999L);
         first.anchor(5000000000L, 100000000L);
         first.stone(0, 0, 1);
+        first.stone(14, 15, 1);
+        due("a field of 4 by 3 cells, of density 21333", first.age(0, 12, 13, 15, 15), 4999999999L * 21333 / 99999999L);
         due("below a far first", first.age(0, 0, 0, 0, 0), 4999999999L * 256000 / 99999999L);
     }
 
