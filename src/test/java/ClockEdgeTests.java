@@ -322,16 +322,19 @@ public final class ClockEdgeTests {
         age("far apart, 256000", withAnchors(row(1), 1, 1, 5000000000L, 100000000L), 0, 0, 0, 0, 12799951L);
     }
 
+    /** Seven radii, each less than the one before, are the most craters that can be seen on one cell. */
     private static void manyOnOneCell() {
         CHECK.sentence("11: a density so great that products need all of a long");
         Craterclock c = new Craterclock();
         c.eye(9);
+        c.ground(8, 8, ICE);
+        c.stone(8, 8, 6);
+        c.ground(8, 8, 0);
         for (int size = 6; size >= 1; size--) {
             c.stone(8, 8, size);
         }
-        withAnchors(c, 1, 1, 5000000000L, 1536001);
-        age("1536000", c, 8, 8, 8, 8, 1 + 4999999999L * 1535999 / 1536000);
-        CHECK.due("by hand", c.age(0, 8, 8, 8, 8), 4999996744L);
+        withAnchors(c, 1, 1, 5000000000L, 1792001);
+        age("1792000, the greatest: 1 and 4999999999 times 1791999, by 1792000", c, 8, 8, 8, 8, 4999997209L);
     }
 
     private static void eightAnchors() {
